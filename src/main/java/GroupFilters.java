@@ -62,7 +62,7 @@ public final class GroupFilters {
         if (address < OWN_ADDRESS) {
             links[link].yieldTo(address);
             if (group != NONE && !suppressed) {
-                links[link].lower(group, set);
+                links[link].hearQuery(group, set);
             }
         }
         return links[link].asks();
@@ -353,19 +353,18 @@ public final class GroupFilters {
         private void askSources(QueryLog log, int group, int set) {
             if (set != 0 && asks()) {
                 log.add(number, group, set);
-                lower(group, set);
+                filters[group].lowerTimers(set, last());
             }
         }
 
         private void askGroup(QueryLog log, int group) {
             if (asks()) {
                 log.add(number, group, 0);
-                lower(group, 0);
+                filters[group].lowerOwnTimer(last());
             }
         }
 
-        /** What a query asks for, its own or another router's: some sources, or the group if there are none. */
-        void lower(int group, int set) {
+        void hearQuery(int group, int set) {
             if (set == 0) {
                 filters[group].lowerOwnTimer(last());
             } else {
@@ -385,13 +384,13 @@ public final class GroupFilters {
             }
             int more = set & ~before;
             int fewer = before & ~set;
-            hearUnlessEmpty(log, group, ALLOW, excludes ? fewer : more);
-            hearUnlessEmpty(log, group, BLOCK, excludes ? more : fewer);
-        }
-
-        private void hearUnlessEmpty(QueryLog log, int group, int kind, int set) {
-            if (set != 0) {
-                hearReport(log, group, kind, set);
+            int allowed = excludes ? fewer : more;
+            int blocked = excludes ? more : fewer;
+            if (allowed != 0) {
+                hearReport(log, group, ALLOW, allowed);
+            }
+            if (blocked != 0) {
+                hearReport(log, group, BLOCK, blocked);
             }
         }
 

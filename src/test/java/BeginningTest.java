@@ -105,10 +105,18 @@ public final class BeginningTest {
         x.report(1, 0, GroupFilters.TO_EX, 9);
         x.tick(33);
         x.query(2, 3, GroupFilters.NONE, 0, false);
+        x.member(1, 2, 0, true, 1);
+        x.member(1, 3, 7, false, 65535);
+        x.report(2, 4, GroupFilters.IN, 65535);
+        x.report(2, 4, GroupFilters.EX, 43690);
         x.clear();
         GroupFilters other = new GroupFilters(3);
         Check.due("clear()", Picture.of(x), Picture.of(other));
-        Check.due("members want nothing", x.answer(0, 0) + x.answer(0, 5), 0);
+        for (int l = 0; l < 3; l++) {
+            for (int m = 0; m < 6; m++) {
+                Check.due("member " + m + " of link " + l + " wants nothing", x.answer(l, m), 0);
+            }
+        }
         Check.due("ticks are counted anew", x.tick(20), 3);
         Check.query("after clear", x, 0, 2, GroupFilters.NONE, 0, 20);
         other.tick(20);

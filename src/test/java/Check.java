@@ -1,5 +1,6 @@
 /** Compares answers with those that are due, and ends a test with exit code 1 if one was not. */
 final class Check {
+    private static final int MOST_TOLD = 40;
     private static int done = 0;
     private static int wrong = 0;
 
@@ -9,8 +10,7 @@ final class Check {
     static void due(String call, long got, long want) {
         done++;
         if (got != want) {
-            wrong++;
-            System.out.println(call + " answered " + got + ", due is " + want);
+            tell(call + " answered " + got + ", due is " + want);
         }
     }
 
@@ -21,8 +21,15 @@ final class Check {
     static void due(String call, String got, String want) {
         done++;
         if (!got.equals(want)) {
-            wrong++;
-            System.out.println(call + " answered\n  " + got + "\ndue is\n  " + want);
+            tell(call + " answered\n  " + got + "\ndue is\n  " + want);
+        }
+    }
+
+    /** A fault in a long run shows in thousands of checks: the first ones are enough. */
+    private static void tell(String text) {
+        wrong++;
+        if (wrong <= MOST_TOLD) {
+            System.out.println(text);
         }
     }
 
