@@ -33,29 +33,26 @@ final class Check {
         }
     }
 
-    /** The call throws just that exception, and the object is afterwards as it was. */
-    static void refused(String call, GroupFilters x, Class<? extends RuntimeException> due, Runnable run) {
-        String before = Picture.of(x);
-        String got = "nothing";
+    /** The name of what the call throws, "nothing" if it answers. */
+    static String thrown(Runnable call) {
         try {
-            run.run();
+            call.run();
         } catch (RuntimeException e) {
-            got = e.getClass().getName();
+            return e.getClass().getName();
         }
-        due(call + " throws", got, due.getName());
-        due(call + " changes nothing", Picture.of(x), before);
+        return "nothing";
     }
 
-    static void noIndex(String call, GroupFilters x, Runnable run) {
-        refused(call, x, IndexOutOfBoundsException.class, run);
+    static void noIndex(String call, Runnable run) {
+        due(call + " throws", thrown(run), IndexOutOfBoundsException.class.getName());
     }
 
-    static void noArgument(String call, GroupFilters x, Runnable run) {
-        refused(call, x, IllegalArgumentException.class, run);
+    static void noArgument(String call, Runnable run) {
+        due(call + " throws", thrown(run), IllegalArgumentException.class.getName());
     }
 
     /** Of one record: its mode, A or X, Y, and the group's own timer. */
-    static void record(String when, GroupFilters x, int link, int group, int[] want) {
+    static void record(String when, GroupFilters x, int link, int group, int... want) {
         due(when + ": mode", x.mode(link, group), want[0]);
         due(when + ": sources running", x.sources(link, group, true), want[1]);
         due(when + ": sources stopped", x.sources(link, group, false), want[2]);
@@ -69,11 +66,18 @@ final class Check {
         }
     }
 
-    /** The query that was sent k before the latest one. */
+    /** The query that was sent k before the latest one: link, group, set, tick. */
     static void query(String when, GroupFilters x, int k, int... want) {
         for (int what = 0; what < want.length; what++) {
             due(when + ": asked(" + k + ", " + what + ")", x.asked(k, what), want[what]);
         }
+    }
+
+    /** Who asks on a link: the address, ticks till the router asks again, ticks till its next general query. */
+    static void asker(String when, GroupFilters x, int link, int address, int again, int next) {
+        due(when + ": address", x.told(link, 2), address);
+        due(when + ": asks again", x.told(link, 3), again);
+        due(when + ": next query", x.told(link, 5), next);
     }
 
     static void end() {

@@ -1,13 +1,20 @@
+import java.util.ArrayList;
+import java.util.List;
 import java.util.Random;
+import java.util.function.ToIntFunction;
 
-/** All promises together: long runs of calls, right and wrong ones, compared with the model after each. */
+/**
+ * All promises together: long runs of calls, right and wrong ones, compared with the model after each. An
+ * object answers for 512 calls alone: each part of it is read off a new one, behind the same calls.
+ */
 public final class ModelTest {
-    private static final int RUNS = 400;
+    private static final int RUNS = 300;
     private static final int CALLS = 120;
 
     private final Random random;
     private final int many;
     private final GroupFilters x;
+    private final List<ToIntFunction<GroupFilters>> calls = new ArrayList<>();
     private Model model;
     private String call = "";
 
@@ -48,8 +55,18 @@ public final class ModelTest {
         return kind == 0 ? upTo(2000) : kind < 5 ? upTo(60) : upTo(6);
     }
 
-    private void due(long got, long want) {
-        Check.due(call, got, want);
+    private void makeCall(String name, ToIntFunction<GroupFilters> made, int due) {
+        call = name;
+        calls.add(made);
+        Check.due(call, made.applyAsInt(x), due);
+    }
+
+    private GroupFilters sameAgain() {
+        GroupFilters again = new GroupFilters(many);
+        for (ToIntFunction<GroupFilters> one : calls) {
+            one.applyAsInt(again);
+        }
+        return again;
     }
 
     private void oneCall() {
@@ -63,37 +80,39 @@ public final class ModelTest {
             query(link);
         } else if (kind < 75) {
             int ticks = ticks();
-            call = "tick(" + ticks + ")";
-            due(x.tick(ticks), model.tick(ticks));
+            makeCall("tick(" + ticks + ")", y -> y.tick(ticks), model.tick(ticks));
         } else if (kind < 91) {
             member(link);
         } else if (kind < 95) {
             int member = upTo(5);
-            call = "answer(" + link + ", " + member + ")";
-            due(x.answer(link, member), model.answer(link, member));
+            makeCall("answer(" + link + ", " + member + ")", y -> y.answer(link, member), model.answer(link, member));
         } else if (kind < 99) {
             wrongCall(link);
         } else if (upTo(4) == 0) {
-            call = "clear()";
-            x.clear();
             model = new Model(many);
+            makeCall("clear()", ModelTest::cleared, 0);
         }
+    }
+
+    private static int cleared(GroupFilters y) {
+        y.clear();
+        return 0;
     }
 
     private void makeSettings(int link) {
         int often = 1 + upTo(upTo(4) == 0 ? 6 : 2);
         int interval = 1 + upTo(upTo(4) == 0 ? 199 : 14);
         int delay = 1 + upTo(interval - 1);
-        call = "settings(" + link + ", " + often + ", " + interval + ", " + delay + ")";
-        due(x.settings(link, often, interval, delay), model.settings(link, often, interval, delay));
+        makeCall("settings(" + link + ", " + often + ", " + interval + ", " + delay + ")",
+            y -> y.settings(link, often, interval, delay), model.settings(link, often, interval, delay));
     }
 
     private void report(int link) {
         int group = group();
         int kind = upTo(5);
         int set = set();
-        call = "report(" + link + ", " + group + ", " + kind + ", " + set + ")";
-        due(x.report(link, group, kind, set), model.report(link, group, kind, set));
+        makeCall("report(" + link + ", " + group + ", " + kind + ", " + set + ")",
+            y -> y.report(link, group, kind, set), model.report(link, group, kind, set));
     }
 
     private void query(int link) {
@@ -101,9 +120,9 @@ public final class ModelTest {
         int group = group() - upTo(1);
         int set = set();
         boolean suppressed = upTo(3) == 0;
-        call = "query(" + link + ", " + address + ", " + group + ", " + set + ", " + suppressed + ")";
-        Check.due(call, x.query(link, address, group, set, suppressed),
-            model.query(link, address, group, set, suppressed));
+        makeCall("query(" + link + ", " + address + ", " + group + ", " + set + ", " + suppressed + ")",
+            y -> y.query(link, address, group, set, suppressed) ? 1 : 0,
+            model.query(link, address, group, set, suppressed) ? 1 : 0);
     }
 
     private void member(int link) {
@@ -111,67 +130,71 @@ public final class ModelTest {
         int group = group();
         boolean excludes = random.nextBoolean();
         int set = set();
-        call = "member(" + link + ", " + member + ", " + group + ", " + excludes + ", " + set + ")";
-        due(x.member(link, member, group, excludes, set), model.member(link, member, group, excludes, set));
+        makeCall("member(" + link + ", " + member + ", " + group + ", " + excludes + ", " + set + ")",
+            y -> y.member(link, member, group, excludes, set), model.member(link, member, group, excludes, set));
     }
 
     /** The model does not hear of it: the comparison behind it shows that it changed nothing. */
     private void wrongCall(int link) {
-        call = "a wrong call";
-        boolean thrown = false;
-        try {
-            switch (upTo(6)) {
-                case 0:
-                    x.settings(link, 1, 5, 6);
-                    break;
-                case 1:
-                    x.report(link, 0, 3, 65536);
-                    break;
-                case 2:
-                    x.query(link, 3, 0, -1, false);
-                    break;
-                case 3:
-                    x.tick(2001);
-                    break;
-                case 4:
-                    x.member(link, 0, 0, true, 65536);
-                    break;
-                case 5:
-                    x.member(link, 6, 0, true, 1);
-                    break;
-                default:
-                    x.answer(link, 6);
-                    break;
-            }
-        } catch (IndexOutOfBoundsException | IllegalArgumentException e) {
-            thrown = true;
+        int kind = upTo(6);
+        makeCall("wrong call " + kind, y -> Check.thrown(() -> callWrongly(y, kind, link)).equals("nothing") ? 0 : 1, 1);
+    }
+
+    private static void callWrongly(GroupFilters y, int kind, int link) {
+        switch (kind) {
+            case 0:
+                y.settings(link, 1, 5, 6);
+                break;
+            case 1:
+                y.report(link, 0, 3, 65536);
+                break;
+            case 2:
+                y.query(link, 3, 0, -1, false);
+                break;
+            case 3:
+                y.tick(2001);
+                break;
+            case 4:
+                y.member(link, 0, 0, true, 65536);
+                break;
+            case 5:
+                y.member(link, 6, 0, true, 1);
+                break;
+            default:
+                y.answer(link, 6);
+                break;
         }
-        Check.due(call, thrown, true);
     }
 
     private void compare(String when) {
         for (int l = 0; l < many; l++) {
-            for (int what = 0; what < 6; what++) {
-                Check.due(when + ": told(" + l + ", " + what + ")", x.told(l, what), model.told(l, what));
-            }
-            for (int g = 0; g < 8; g++) {
-                compareGroup(when + ": link " + l + ", group " + g, l, g);
-            }
+            compareLink(when + ": link " + l, sameAgain(), l, 0);
+            compareLink(when + ": link " + l, sameAgain(), l, 4);
         }
-        Check.due(when + ": sent", x.sent(), model.queries.size());
+        GroupFilters y = sameAgain();
+        Check.due(when + ": sent", y.sent(), model.queries.size());
         for (int k = 0; k < Math.min(40, model.queries.size()); k++) {
-            Check.query(when, x, k, model.queries.get(model.queries.size() - 1 - k));
+            Check.query(when, y, k, model.queries.get(model.queries.size() - 1 - k));
         }
     }
 
-    private void compareGroup(String where, int l, int g) {
+    private void compareLink(String where, GroupFilters y, int l, int firstGroup) {
+        for (int what = 0; what < 6; what++) {
+            Check.due(where + ": told(" + what + ")", y.told(l, what), model.told(l, what));
+        }
+        for (int g = firstGroup; g < firstGroup + 4; g++) {
+            compareGroup(where + ", group " + g, y, l, g);
+        }
+    }
+
+    private void compareGroup(String where, GroupFilters y, int l, int g) {
         Model.Group due = model.links.get(l).groups[g];
         int running = Model.number(due.timed.keySet());
-        Check.record(where, x, l, g, new int[] {due.mode(), running, Model.number(due.silent), due.gt});
+        Check.record(where, y, l, g, due.mode(), running, Model.number(due.silent), due.gt);
         for (int s = 0; s < 16; s++) {
-            Check.due(where + ": timer", x.timer(l, g, s), due.timed.getOrDefault(s, 0));
-            Check.due(where + ": wanted", x.wanted(l, g, s), model.wanted(l, g, s));
-            Check.due(where + ": passed", x.passed(l, g, s), model.passed(l, g, s));
+            Check.due(where + ": timer", y.timer(l, g, s), due.timed.getOrDefault(s, 0));
+            Check.due(where + ": wanted", y.wanted(l, g, s), model.wanted(l, g, s));
+            Check.due(where + ": passed", y.passed(l, g, s), model.passed(l, g, s));
         }
     }
 }
