@@ -85,7 +85,7 @@ public final class BeginningTest {
         Check.due("till it asks again, d / 2 downward", x.told(1, 3), 32);
     }
 
-    /** "How often r, 1 .. 7, an interval q, 1 .. 200, and a delay d, 1 .. q"; "GRACE is r q + d; the LAST time is r." */
+    /** "How often r, 1 .. 7, an interval q, 1 .. 200, and a delay d, 1 .. q"; "GRACE is r q + d" */
     private static void settingsAtTheirEdges() {
         int[][] settings = {{1, 1, 1}, {7, 1, 1}, {1, 2, 1}, {1, 2, 2}, {1, 3, 3}, {1, 200, 1}, {1, 200, 200},
             {7, 200, 1}, {7, 200, 199}, {7, 200, 200}, {2, 20, 20}, {2, 20, 1}};

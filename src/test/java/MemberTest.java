@@ -324,7 +324,7 @@ public final class MemberTest {
         for (int s = 0; s < 16; s++) {
             x.member(0, s % 6, 7, false, 1 << s);
             Check.due("its one source", x.wanted(0, 7, s), true);
-            Check.due("not the one before", x.wanted(0, 7, (s + 15) % 16), s >= 1);
+            Check.due("the one before, by another member", x.wanted(0, 7, (s + 15) % 16), s >= 1);
             Check.due("not the one behind", x.wanted(0, 7, (s + 1) % 16), false);
             x.member(0, s % 6, 6, true, 1 << s);
         }

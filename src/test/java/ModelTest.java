@@ -137,7 +137,8 @@ public final class ModelTest {
     /** The model does not hear of it: the comparison behind it shows that it changed nothing. */
     private void wrongCall(int link) {
         int kind = upTo(6);
-        makeCall("wrong call " + kind, y -> Check.thrown(() -> callWrongly(y, kind, link)).equals("nothing") ? 0 : 1, 1);
+        makeCall("wrong call " + kind,
+            y -> Check.thrown(() -> callWrongly(y, kind, link)).equals("nothing") ? 0 : 1, 1);
     }
 
     private static void callWrongly(GroupFilters y, int kind, int link) {

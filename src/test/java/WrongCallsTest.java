@@ -1,3 +1,4 @@
+import java.util.Arrays;
 import java.util.function.Supplier;
 
 /**
@@ -119,7 +120,7 @@ public final class WrongCallsTest {
 
     private void tryFrom(int at, String name, Call call, Named[] named, int[] values) {
         if (at == named.length) {
-            tryOne(name + " with " + java.util.Arrays.toString(values), call, named, values);
+            tryOne(name + " with " + Arrays.toString(values), call, named, values);
             return;
         }
         for (int value : named[at].edges()) {
