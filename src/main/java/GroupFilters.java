@@ -553,7 +553,11 @@ public final class GroupFilters {
         }
     }
 
-    /** The queries that were sent, the latest ones in rows that are used over and over; and the ticks so far. */
+    /**
+     * The queries that were sent, the latest ones in rows that are used over and over; and the ticks so far.
+     * A place is a floorMod, so that it is inside the rows even if the count wrapped round, long after the
+     * calls that are promised.
+     */
     private static final class QueryLog {
         private final int[] links = new int[KEPT_QUERIES];
         private final int[] groups = new int[KEPT_QUERIES];
@@ -568,7 +572,7 @@ public final class GroupFilters {
         }
 
         void add(int link, int group, int set) {
-            int at = count % KEPT_QUERIES;
+            int at = Math.floorMod(count, KEPT_QUERIES);
             links[at] = link;
             groups[at] = group;
             sets[at] = set;
@@ -577,7 +581,7 @@ public final class GroupFilters {
         }
 
         int look(int back, int what) {
-            int at = (count - 1 - back) % KEPT_QUERIES;
+            int at = Math.floorMod(count - 1 - back, KEPT_QUERIES);
             switch (what) {
                 case 0:
                     return links[at];
